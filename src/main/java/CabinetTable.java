@@ -24,7 +24,7 @@ public final class CabinetTable {
     private final State image = new State();
     // check() plays the days behind the image here, so that neither it nor the open day is touched.
     private final State trial = new State();
-    private final WayFinder wayFinder = new WayFinder(now.tables);
+    private final WayFinder wayFinder = new WayFinder();
     private final Tape tape = new Tape();
     private final int[] waiting = new int[MOST_WAITING];
     private final Register[] registers = new Register[REGISTERS];
@@ -104,7 +104,7 @@ public final class CabinetTable {
         if (!isDay(day) || !isWithin(n, 0, 30) || what < 0) {
             return BAD;
         }
-        wayFinder.seek(tables / 10, tables % 10, day, n);
+        wayFinder.seek(now.tables, tables / 10, tables % 10, day, n);
         return wayFinder.answer(what);
     }
 
@@ -241,7 +241,7 @@ public final class CabinetTable {
         if (first.head != second.head || first.head == Rule.NEED || first.head == Rule.STRIKE) {
             return KIND;
         }
-        return first.second == second.second ? NONE : now.leastPaperOfBoth(first, second);
+        return first.number == second.number ? NONE : now.leastPaperOfBoth(first, second);
     }
 
     // ---- what comes, what is decided
@@ -426,7 +426,7 @@ public final class CabinetTable {
     }
 
     public int reckoned() {
-        return now.reckonedPapers();
+        return now.reckonedFrom(now.openPapers());
     }
 
     // ---- registers, the room
@@ -726,7 +726,7 @@ public final class CabinetTable {
                 if (((struck >> i) & 1) == 0 && rule.fits(paper, day, government)) {
                     counting |= 1 << i;
                     if (rule.head == Rule.STRIKE) {
-                        struck |= 1 << rule.first;
+                        struck |= 1 << rule.target;
                     }
                 }
             }
@@ -753,7 +753,7 @@ public final class CabinetTable {
             }
             int rule = greatestRule(counting, head);
             if (rule >= 0 && rule < ruleCount) {
-                return rules[rule].second;
+                return rules[rule].number;
             }
             if (head == Rule.AHEAD) {
                 return paper.reach();
@@ -765,7 +765,7 @@ public final class CabinetTable {
             int needed = 0;
             for (int i = 0; i < ruleCount; i++) {
                 if (((counting >> i) & 1) == 1 && rules[i].head == Rule.NEED) {
-                    needed |= 1 << rules[i].second;
+                    needed |= 1 << rules[i].number;
                 }
             }
             return needed;
@@ -864,8 +864,7 @@ public final class CabinetTable {
             return open;
         }
 
-        int reckonedPapers() {
-            int open = openPapers();
+        int reckonedFrom(int open) {
             int there = (1 << paperCount) - 1;
             int known = open;
             // Each useful round makes one more paper known, so there are no more rounds than papers.
@@ -1012,7 +1011,6 @@ public final class CabinetTable {
 
     /** Tries all ways between two tables; with six tables at most there are few. */
     private static final class WayFinder {
-        private final Tables tables;
         private final int[] path = new int[MOST_TABLES];
         private final int[] best = new int[MOST_TABLES];
         private int bestLength;
@@ -1020,15 +1018,11 @@ public final class CabinetTable {
         private int goal;
         private int ahead;
 
-        WayFinder(Tables tables) {
-            this.tables = tables;
-        }
-
-        void seek(int from, int to, int day, int n) {
+        void seek(Tables tables, int from, int to, int day, int n) {
             bestLength = 0;
             goal = to;
             ahead = n;
-            stepTo(from, day, 0, 0);
+            stepTo(tables, from, day, 0, 0);
         }
 
         int answer(int what) {
@@ -1044,7 +1038,7 @@ public final class CabinetTable {
             return what - 2 < bestLength ? best[what - 2] : NONE;
         }
 
-        private void stepTo(int table, int day, int depth, int visited) {
+        private void stepTo(Tables tables, int table, int day, int depth, int visited) {
             if (depth >= MOST_TABLES) {
                 return;
             }
@@ -1056,7 +1050,7 @@ public final class CabinetTable {
             int seen = visited | (1 << table);
             for (int next = 0; next < tables.count; next++) {
                 if (((seen >> next) & 1) == 0 && tables.mayPass(table, next)) {
-                    stepTo(next, tables.firstSitting(next, day + ahead), depth + 1, seen);
+                    stepTo(tables, next, tables.firstSitting(next, day + ahead), depth + 1, seen);
                 }
             }
         }
@@ -1234,12 +1228,14 @@ public final class CabinetTable {
         static final int TABLE = 0, AHEAD = 1, NEED = 2, SILENT = 3, SHUT = 4, STRIKE = 5;
         static final int SUM_BELOW = 0, SUM_ABOVE = 1, DAY_BELOW = 2, DAY_ABOVE = 3, GOV_BELOW = 4, GOV_ABOVE = 5;
         static final int BY = 6, ON_THING = 7, AGREED = 8, NOT = 9, AND = 10, OR = 11;
-        // A step is told as its sort times this, and its number.
+        // A step is told as its sort times this, and its number (an atom's; else 0).
         static final int STEP = 100000;
 
         int head;
-        int first;
-        int second;
+        // K, or R of a strike.
+        int target;
+        // N, or O of a need; NONE of a strike.
+        int number;
         int fromDay;
         int atoms;
         // The steps of the if stand ahead of those of the unless, each said behind what it works on.
@@ -1249,8 +1245,8 @@ public final class CabinetTable {
 
         void become(Rule other) {
             head = other.head;
-            first = other.first;
-            second = other.second;
+            target = other.target;
+            number = other.number;
             fromDay = other.fromDay;
             atoms = other.atoms;
             ifSteps = other.ifSteps;
@@ -1260,8 +1256,8 @@ public final class CabinetTable {
 
         void clear() {
             head = TABLE;
-            first = 0;
-            second = NONE;
+            target = 0;
+            number = NONE;
             fromDay = 0;
             atoms = 0;
             ifSteps = 0;
@@ -1269,9 +1265,9 @@ public final class CabinetTable {
         }
 
         /** A tape has more bytes than a rule of it has steps, so there is always room. */
-        void addStep(int sort, int number) {
+        void addStep(int sort, int operand) {
             if (allSteps < MOST_BYTES) {
-                steps[allSteps] = sort * STEP + number;
+                steps[allSteps] = sort * STEP + operand;
                 allSteps++;
                 if (sort < NOT) {
                     atoms++;
@@ -1282,15 +1278,15 @@ public final class CabinetTable {
         int part(int what) {
             switch (what) {
                 case 0: return head;
-                case 1: return first;
-                case 2: return second;
+                case 1: return target;
+                case 2: return number;
                 case 3: return fromDay;
                 default: return atoms;
             }
         }
 
         boolean isWrong(int offices, int tables, int rules) {
-            if (head == STRIKE ? first >= rules : first >= KINDS) {
+            if (head == STRIKE ? target >= rules : target >= KINDS) {
                 return true;
             }
             for (int i = 0; i < allSteps; i++) {
@@ -1300,17 +1296,17 @@ public final class CabinetTable {
                 }
             }
             switch (head) {
-                case TABLE: return second >= tables;
-                case NEED: return second >= offices;
-                case SHUT: return second > 999;
+                case TABLE: return number >= tables;
+                case NEED: return number >= offices;
+                case SHUT: return number > 999;
                 case STRIKE: return false;
-                default: return second > 99;
+                default: return number > 99;
             }
         }
 
         /** Whether it would count for the paper if no strike did. */
         boolean fits(Paper paper, int day, int government) {
-            if (fromDay > day || (head != STRIKE && !paper.isOfKind(first))) {
+            if (fromDay > day || (head != STRIKE && !paper.isOfKind(target))) {
                 return false;
             }
             if (ifSteps > 0 && !isSo(0, ifSteps, paper, day, government)) {
@@ -1340,17 +1336,17 @@ public final class CabinetTable {
         }
 
         private static boolean isAtomSo(int step, Paper paper, int day, int government) {
-            int number = step % STEP;
+            int operand = step % STEP;
             switch (step / STEP) {
-                case SUM_BELOW: return paper.sum < number;
-                case SUM_ABOVE: return paper.sum > number;
-                case DAY_BELOW: return day < number;
-                case DAY_ABOVE: return day > number;
-                case GOV_BELOW: return government < number;
-                case GOV_ABOVE: return government > number;
-                case BY: return paper.office == number;
-                case ON_THING: return paper.thing == number;
-                default: return number < MOST_OFFICES && ((paper.agreed >> number) & 1) == 1;
+                case SUM_BELOW: return paper.sum < operand;
+                case SUM_ABOVE: return paper.sum > operand;
+                case DAY_BELOW: return day < operand;
+                case DAY_ABOVE: return day > operand;
+                case GOV_BELOW: return government < operand;
+                case GOV_ABOVE: return government > operand;
+                case BY: return paper.office == operand;
+                case ON_THING: return paper.thing == operand;
+                default: return operand < MOST_OFFICES && ((paper.agreed >> operand) & 1) == 1;
             }
         }
     }
@@ -1447,7 +1443,7 @@ public final class CabinetTable {
             if (token != NUMBER) {
                 return false;
             }
-            draft.first = numbers[at];
+            draft.target = numbers[at];
             advance();
             if (draft.head == Rule.STRIKE) {
                 return true;
@@ -1455,7 +1451,7 @@ public final class CabinetTable {
             if (token != NUMBER) {
                 return false;
             }
-            draft.second = numbers[at];
+            draft.number = numbers[at];
             advance();
             return true;
         }
