@@ -285,6 +285,10 @@ public final class PromisesTest {
         due(1, y.way(2, 0, 30, 3));
         due(3, y.way(2, 0, 30, 1));
         due(NONE, y.way(20, 0, 0, 0));
+        y.pass(1, 0, 1);
+        due(12, y.way(10, 3, 9, 0));
+        due(0, y.way(10, 3, 9, 3));
+        due(5, y.way(0, 5, 9, 0));
     }
 
     private static void promise11() {
@@ -343,10 +347,10 @@ public final class PromisesTest {
         int[][] reach = {{5, 6, 14}, {3, 4, 12}, {6, 7, 15}, {3, 3, 7}, {0, 0, 8}};
         int[][] shuts = {{300, 300, 300}, {300, 285, 201}, {300, 330, 498}, {597, 657, 989}, {100, 95, 67}};
         int[] binds = {1, 0, 1, 1, 1};
-        int[][] weighs = {{2, 17, 101}, {2, 17, 101}, {2, 17, 101}, {599, 674, 1090}, {2, 17, 85}};
+        int[][] weighs = {{29, 44, 128}, {29, 44, 128}, {29, 44, 128}, {626, 701, 1117}, {29, 44, 112}};
         for (int kind = 0; kind < 5; kind++) {
             for (int i = 0; i < 3; i++) {
-                int paper = x.paper(kind, 0, 0, 299, numbers[i]);
+                int paper = x.paper(kind, 0, 0, 2900, numbers[i]);
                 due(reach[kind][i], x.told(paper, 12));
                 due(shuts[kind][i], x.told(paper, 13));
                 due(binds[kind], x.told(paper, 14));
@@ -441,6 +445,12 @@ public final class PromisesTest {
         due(96, x.feed(0, 0, 0));
         due(-184, x.rule(0));
         due(0, x.count(13));
+        for (int i = 1; i <= 8; i++) {
+            x.feed(0x28282828, 0x28282828, 0x28282828);
+        }
+        due(-100, x.rule(0));
+        type(x, "ahead 0 1 if by 0 or by 0 or by 0 or by 0 or by 0 or by 0 or by 0 or by 0 or by 0 or by 0 or by1");
+        due(-195, x.rule(0));
         // Bytes above 127 are no letters, and the highest byte of a number is the first.
         x.feed(0x74616274, 0x61626C65, 0x20302030);
         due(-100, x.rule(0));
@@ -492,7 +502,7 @@ public final class PromisesTest {
 
     private static void promise19OfFaults(CabinetTable x) {
         String[] faulty = {
-            "^", "     ^", "^foo", "^5", "^if by 0", "^Table 0 1", "^tables 0 1", "^tabl 0 1", "table^", "table ^", "table^0 1",
+            "^", "     ^", "^foo", "^5", "^if by 0", "^Table 0 1", "^tables 0 1", "^tablez 0 1", "^atable 0 1", "^tab 0 1", "^tabl 0 1", "table^", "table ^", "table^0 1",
             "table ^if", "table 0^", "table 0 ^if", "table 0 1 ^2", "table 0 1^if by 0", "table 0 1 ^by 0", "table 0 ^000001",
             "table ^123456 1", "strike 0 ^1", "strike^", "^strik 0", "table 0 1 if^", "table 0 1 if ^unless by 0",
             "table 0 1 if ^if", "table 0 1 if sum ^5", "table 0 1 if sum <^", "table 0 1 if sum < ^<", "table 0 1 if sum<5^and",
@@ -518,6 +528,9 @@ public final class PromisesTest {
         due(4, rule(x, "ahead 0 1 if not(not(not(not(not(not(not(not(by 0))))))))"));
         due(-100 - 45, rule(x, "ahead 0 1 if not(not(not(not(not(not(not(not(not by 0))))))))"));
         due(5, rule(x, "ahead 0 1 if not not not not not not not not by 0 and not by 1 unless not by 2"));
+        due(6, rule(x, "ahead 0 1 unless ((((((((not not not not not not not not by 0))))))))"));
+        due(-100 - 25, rule(x, "ahead 0 1 unless (((((((((by 0)))))))))"));
+        due(-100 - 57, rule(x, "ahead 0 1 unless ((((((((not not not not not not not not not by 0))))))))"));
     }
 
     private static void promise19OfWrong() {
@@ -594,7 +607,11 @@ public final class PromisesTest {
             due(want[i][2], x.counts(6, 5 + i));
             due(want[i][3], x.counts(7, 5 + i));
         }
-        due(BAD, x.counts(8, 0));
+        rule(x, "strike 1");
+        rule(x, "strike 2");
+        due(0, x.counts(1, 1));
+        due(0, x.counts(2, 2));
+        due(BAD, x.counts(10, 0));
         due(BAD, x.counts(-1, 0));
         due(BAD, x.counts(0, 8));
         due(BAD, x.counts(0, -1));
@@ -657,6 +674,10 @@ public final class PromisesTest {
         due(0, x.due(0, 1));
         due(0, x.due(0, 0));
         due(300, x.due(0, 4));
+        CabinetTable y = house();
+        y.paper(0, 0, 0, 0, 0);
+        rule(y, "need 0 1");
+        due(2, y.due(0, 2));
         due(BAD, x.due(0, 5));
         due(BAD, x.due(0, -1));
         due(BAD, x.due(1, 0));
@@ -762,6 +783,7 @@ public final class PromisesTest {
         // Five days went by, and AHEAD is 5.
         CabinetTable y = house();
         y.paper(0, 0, 0, 0, 0);
+        y.run(9);
         y.send(0);
         y.run(4);
         due(4, y.lacks(0, 0));
@@ -800,6 +822,15 @@ public final class PromisesTest {
         x.take(2);
         due(NO, x.come(2, 0, 0));
         due(2, x.count(4));
+        for (int i = 3; i < 8; i++) {
+            x.office();
+        }
+        x.seats(0, 128);
+        x.paper(0, 0, 0, 0, 0);
+        x.send(3);
+        due(NO, x.come(3, 0, 6));
+        due(4, x.come(3, 0, 7));
+        due(7, x.told(3, 11));
     }
 
     private static void promise27() {
@@ -987,6 +1018,13 @@ public final class PromisesTest {
         x.come(5, 0, 2);
         x.decide(5, 9, 0);
         due(0, x.against(0));
+        decided(x, 7, 2, 0);
+        due(0, x.against(0));
+        x.seats(0, 3);
+        decided(x, 7, 2, 0);
+        due(1, x.against(0));
+        due(0, x.against(1));
+        due(6, x.against(2));
         due(BAD, x.against(3));
         due(BAD, x.against(-1));
     }
@@ -1134,6 +1172,14 @@ public final class PromisesTest {
         rule(x, "ahead 0 1");
         due(1, x.beside(3));
         due(1, x.beside(5));
+        CabinetTable y = house();
+        y.paper(0, 0, 0, 0, 0);
+        y.run(4);
+        y.send(0);
+        y.run(6);
+        y.come(0, 0, NONE);
+        due(0, y.beside(1));
+        due(1, y.beside(2));
         due(BAD, x.beside(100));
         due(BAD, x.beside(-1));
     }
@@ -1167,6 +1213,9 @@ public final class PromisesTest {
         due(BAD, x.comesBack(2));
         due(BAD, x.comesBack(-1));
         due(1, x.comesBack(0));
+        due(0, x.comesBack(1));
+        due(0, x.count(9));
+        due(0, x.out(0));
     }
 
     private static void promise40() {
@@ -1195,6 +1244,7 @@ public final class PromisesTest {
         x.copy(0, 1, 0xC005);
         due(11, x.suspect(0, 0, 65535));
         due(9, x.suspect(0, 128, 0xC000));
+        due(2, x.suspect(0, 1, 2));
         due(9, x.suspect(0, 129, 0xC001));
         due(1, x.suspect(0, 131, 0xC001));
         due(0, x.suspect(0, 255, 0));
@@ -1235,6 +1285,13 @@ public final class PromisesTest {
         due(1, x.look(1, 1, 1));
         due(2, x.look(1, 3, 5));
         due(0, x.look(1, 64, 0));
+        CabinetTable y = house();
+        y.paper(0, 0, 0, 0, 0);
+        for (int i = 0; i < 20; i++) {
+            y.copy(0, 0, 0);
+        }
+        due(0, y.look(0, 0, 0));
+        due(1, y.look(0, 1, 0));
         due(BAD, x.look(2, 0, 0));
         due(BAD, x.look(-1, 0, 0));
         due(BAD, x.look(0, 256, 0));
@@ -1256,6 +1313,10 @@ public final class PromisesTest {
         x.comesBack(0);
         due(0, x.knows(2, 2));
         due(2, x.knows(2, 3));
+        x.keep();
+        x.copy(2, 2, 0);
+        due(6, x.knows(2, 3));
+        x.back();
         x.run(1);
         x.send(0);
         x.come(0, 0, 0);
@@ -1347,8 +1408,10 @@ public final class PromisesTest {
         due(0, x.note(0, 23, 5));
         due(SIZE, x.register(0, 1, -1));
         due(5, x.note(0, 23, 6));
+        x.note(0, 0, 5);
         due(24, x.register(0, 0, 24));
         due(0, x.note(0, 23, 5));
+        due(0, x.note(0, 0, 5));
         due(0, x.register(0, 1, 0));
         due(INDEX, x.note(0, 0, 5));
         due(0, x.register(0, -1, 99));
@@ -1441,6 +1504,8 @@ public final class PromisesTest {
         due(2, x.lay(0, 0, -5));
         due(0, x.lay(0, 0, 0));
         due(0, x.lay(5, 2, 0));
+        x.register(3, 0, 1);
+        due(0, x.lay(4, 2, 3));
         // What lies there is a row of its own.
         x.note(0, 0, 9);
         due(0, x.item(5, 0));
@@ -1569,6 +1634,7 @@ public final class PromisesTest {
         checkRow(x, 4, rows, rows.length, 0);
         due(61, x.count(14));
         due(BAD, x.check(-1));
+        promise55OfAllThatMatters();
         promise55BeyondTheLastDay();
     }
 
@@ -1578,6 +1644,40 @@ public final class PromisesTest {
         }
         due(want, x.check(n));
         due(0, x.count(12));
+    }
+
+    private static void promise55OfAllThatMatters() {
+        CabinetTable x = house();
+        x.govern();
+        decided(x, 5, 1, 0);
+        decided(x, 5, 1, 1);
+        decided(x, 5, 1, 0);
+        x.reopen(0);
+        // Papers 3, 4, 5 are open from day 2 on, each for another cause: by whom, the thing, who agreed; all others from day 3 on.
+        for (int i = 0; i < 5; i++) {
+            x.paper(0, i == 0 ? 1 : 0, i == 1 ? 2 : 5, 0, 0);
+            x.send(3 + i);
+        }
+        x.word(5, 1, 1);
+        type(x, "shut 0 1 if by 1 or thing 2 or agreed 1 and gov > 0");
+        x.rule(2);
+        type(x, "shut 0 3 if not thing 2");
+        x.rule(0);
+        rule(x, "strike 1 if by 1 or agreed 1");
+        x.take(6);
+        x.take(7);
+        rule(x, "need 0 1");
+        // No silence for one that is taken back, nor one with a no of anybody.
+        for (int i = 8; i < 12; i++) {
+            x.paper(i == 8 ? 0 : 2, 0, 9, 0, 0);
+            x.send(i);
+        }
+        x.take(9);
+        x.word(10, 2, 0);
+        rule(x, "silent 0 1 if thing 9");
+        x.keep();
+        x.run(30);
+        checkRow(x, 3, new int[] {1, 0, 2, 3, 2, 12}, 6, 0);
     }
 
     private static void promise55BeyondTheLastDay() {
@@ -1650,6 +1750,8 @@ public final class PromisesTest {
                 due(counts[what], x.count(what));
             }
             due(5, x.held(0, 999));
+            due(0, x.told(0, 5));
+            due(0, x.told(0, 11));
             due(1, x.pass(0, 1, 1));
             due(3, x.seats(0, 3));
             due(1, x.is(0, 8));
@@ -1665,6 +1767,55 @@ public final class PromisesTest {
             x.send(1);
             x.come(1, 0, 0);
         }
+        promise57OfPapers();
+    }
+
+    private static void promise57OfPapers() {
+        CabinetTable x = house();
+        x.paper(2, 0, 0, 0, 9);
+        x.paper(2, 0, 0, 0, 9);
+        x.paper(2, 0, 0, 0, 9);
+        x.send(0);
+        x.send(1);
+        x.word(0, 0, 1);
+        x.word(0, 1, 0);
+        rule(x, "silent 2 7");
+        x.run(6);
+        x.keep();
+        x.word(0, 0, 0);
+        x.word(0, 1, 1);
+        x.word(0, 2, 1);
+        x.take(0);
+        x.send(2);
+        x.come(1, 0, NONE);
+        due(1, x.beside(1));
+        x.back();
+        int[] want = {6, 0, 1, 2, NONE, NONE, NONE};
+        for (int what = 6; what <= 11; what++) {
+            due(want[what - 5], x.told(0, what));
+        }
+        due(NONE, x.told(2, 5));
+        for (int what = 9; what <= 11; what++) {
+            due(NONE, x.told(1, what));
+        }
+        due(0, x.beside(99));
+        // Let in at first, then by silence, then in time: each time it is as if the other had never been.
+        x.come(1, 1, 0);
+        due(0, x.told(1, 11));
+        x.back();
+        x.run(2);
+        due(7, x.told(1, 10));
+        due(NONE, x.told(1, 11));
+        due(0, x.beside(99));
+        x.back();
+        x.come(1, 0, NONE);
+        due(6, x.told(1, 10));
+        due(1, x.beside(1));
+        x.keep();
+        x.run(1);
+        x.back();
+        due(0, x.beside(0));
+        due(1, x.beside(1));
     }
 
     private static void promise58() {
