@@ -841,11 +841,11 @@ public final class CabinetTable {
             return many;
         }
 
-        int papersKnownTo(int office, int day) {
-            int known = copies.papersSentTo(office, day);
+        int papersKnownTo(int office, int until) {
+            int known = copies.papersSentTo(office, until);
             for (int i = 0; i < paperCount; i++) {
                 Paper paper = papers[i];
-                boolean seen = paper.hasCome() && paper.cameDay <= day && tables.hasSeat(paper.cameTable, office);
+                boolean seen = paper.hasCome() && paper.cameDay <= until && tables.hasSeat(paper.cameTable, office);
                 if (seen || paper.office == office) {
                     known |= 1 << i;
                 }
