@@ -155,6 +155,19 @@ final class BoundsOfCopies extends Situations {
         due(1, y.look(0, 1, 3));
     }
 
+    @Sentence("Terms 5: that for which the greatest number of SUSPECT ones that are alike there is least")
+    static void alikeInWhateverMark() {
+        // At place 0 all three bear this mark, at place 1 only two bear one.
+        for (int mark = 0; mark < 4; mark++) {
+            CabinetTable x = withPapers(1);
+            x.copy(0, 0, mark | mark << 2 | 0xFFF0);
+            x.copy(0, 0, mark | mark << 2 | 0xFFF0);
+            x.copy(0, 0, mark | (mark ^ 1) << 2 | 0xFFF0);
+            due(1, x.look(0, 0, 0));
+            due(0, x.look(0, 2, 0xFFFF));
+        }
+    }
+
     // ---- who knows what
 
     @Sentence("Promise 43: What an OFFICE KNOWS on a DAY (0 .. 999), PAPERS as bits. BAD.")

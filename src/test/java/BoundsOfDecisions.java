@@ -724,6 +724,12 @@ final class BoundsOfDecisions extends Situations {
         due(1, cameOn(8).beside(4));
         due(0, cameOn(104).beside(99));
         due(1, cameOn(103).beside(99));
+        // The days are those since it was sent.
+        CabinetTable later = until(withPapers(1), 10);
+        later.send(0);
+        until(later, 17).come(0, 0, NONE);
+        due(0, later.beside(2));
+        due(1, later.beside(3));
         // AHEAD as it was on that day.
         CabinetTable x = sentUntil(7, "ahead 0 7 if day < 8");
         due(0, x.come(0, 0, NONE));

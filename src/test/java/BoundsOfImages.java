@@ -148,10 +148,60 @@ final class BoundsOfImages extends Situations {
             x.tell(told);
         }
         due(0, x.check(4));
+        // What leans on one that is undone does not stand.
+        CabinetTable leaning = withDecisions(2);
+        decided(leaning, 0, 1, 1);
+        leaning.reopen(0);
+        leaning.keep();
+        leaning.tell(1);
+        leaning.tell(0);
+        due(0, leaning.check(1));
         // A newer image is another one.
         x.keep();
         x.tell(0);
         x.tell(2);
+        due(0, x.check(1));
+    }
+
+    @Sentence("Terms 6: (beyond DAY 999, too; nobody doing anything)")
+    static void daysToldByAllThatTheImageKeeps() {
+        CabinetTable x = house();
+        int[][] officeAndThing = {{1, 0}, {0, 2}, {0, 0}};
+        for (int i = 0; i < 3; i++) {
+            x.paper(0, officeAndThing[i][0], officeAndThing[i][1], 0, 0);
+            x.send(i);
+        }
+        rule(x, "shut 0 2 if by 1");
+        rule(x, "shut 0 3 if thing 2");
+        ruleFrom(x, 4, "shut 0 1");
+        x.keep();
+        int[] row = {0, 0, 0, 1, 0, 2, 0, 3};
+        for (int told : row) {
+            x.tell(told);
+        }
+        due(0, x.check(4));
+    }
+
+    @Sentence("Terms 6: THE DAYS TOLD: how many DECISIONS STAND")
+    static void daysToldOfOneImageAndThenOfAnother() {
+        CabinetTable x = withOneSent(2, 0);
+        rule(x, "silent 2 20");
+        x.keep();
+        for (int i = 0; i < 42; i++) {
+            x.tell(i == 40 ? 1 : 0);
+        }
+        due(0, x.check(21));
+        // What stood on day 21 of the image is another one than what is decided now.
+        decided(x, 0, 1, 0);
+        x.keep();
+        x.tell(1);
+        x.tell(0);
+        due(0, x.check(1));
+        x.back();
+        x.reopen(0);
+        x.keep();
+        x.tell(0);
+        x.tell(0);
         due(0, x.check(1));
     }
 
@@ -192,7 +242,7 @@ final class BoundsOfImages extends Situations {
         Call[] acts = {
             x -> x.office() + x.table(1, 1, 1) + x.paper(0, 0, 0, 0, 0), x -> x.run(60) + x.govern() + x.law(3, 1) + x.group(16),
             x -> x.send(2) + x.take(0) + x.word(4, 1, 0) + x.come(5, 0, 0) + x.decide(5, 1, 3), x -> x.reopen(0) + x.copy(0, 0, 0) + x.comesBack(0),
-            x -> x.hold(0, 1) + x.seats(0, 0) + x.pass(0, 1, 0) + x.pass(2, 1, 1),
+            x -> x.hold(0, 1) + x.seats(0, 0) + x.pass(0, 1, 0) + x.pass(2, 1, 1), x -> x.word(0, 0, 0) + x.word(0, 1, 1) + x.word(0, 2, 1),
         };
         for (Call act : acts) {
             Call thereAndBack = x -> act.on(x) + x.back() + act.on(x) + act.on(x) + x.back();
@@ -202,6 +252,19 @@ final class BoundsOfImages extends Situations {
             }
             same(before, View.pages(image, thereAndBack));
         }
+    }
+
+    @Sentence("Terms 6: all can become as it is")
+    static void whatCameBySilenceDidNotAnyMore() {
+        CabinetTable x = until(withOneSent(2, 0), 6);
+        x.keep();
+        rule(x, "silent 2 6");
+        x.run(1);
+        due(6, x.told(0, 10));
+        due(0, x.beside(99));
+        x.back();
+        due(0, x.come(0, 0, NONE));
+        due(1, x.beside(99));
     }
 
     @Sentence("Terms 6: AN IMAGE keeps all but REGISTERS, SEATS of the room, numbers that wait, THE TAPE")
@@ -268,12 +331,14 @@ final class BoundsOfImages extends Situations {
         x.send(0);
         x.send(1);
         x.take(1);
-        x.send(2);
-        x.come(2, 0, 0);
+        x.send(3);
+        x.come(0, 0, 0);
         due(4, x.count(2));
         due(3, x.count(3));
         due(1, x.count(4));
-        x.decide(2, 1, 0);
+        x.come(3, 0, 0);
+        due(2, x.count(4));
+        x.decide(3, 1, 0);
         due(1, x.count(7));
         x.reopen(0);
         due(1, x.count(6));

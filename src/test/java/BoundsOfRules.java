@@ -44,6 +44,17 @@ final class BoundsOfRules extends Situations {
         due(1, rule(x, "shut 0 8" + " ".repeat(88)));
         due(8, x.of(1, 2));
         due(-195, rule(x, "shut 0 8" + " ".repeat(87) + "8"));
+        // As many words or signs as bytes.
+        due(-100, rule(x, ",".repeat(96)));
+        due(-100, rule(x, "(".repeat(96)));
+        due(-100, rule(x, "a".repeat(96)));
+        due(-100, rule(x, "9".repeat(96)));
+        due(-100, rule(x, ",1".repeat(48)));
+        due(-100, rule(x, "1,".repeat(48)));
+        // A word that is cut off by the end of the tape.
+        due(-192, rule(x, " ".repeat(92) + "tabl"));
+        due(-195, rule(x, " ".repeat(95) + "s"));
+        due(-108, rule(x, "shut 0 1" + ")".repeat(88)));
         PromisesTest.type(x, " ".repeat(96));
         due(96, x.count(13));
         due(FULL, x.feed(0, 0, 0));
@@ -202,6 +213,34 @@ final class BoundsOfRules extends Situations {
         faulty("shut 9 9999 ^foo", "need 0 9 if ^foo");
     }
 
+    private static final String[] ALL = (
+        "table ahead need silent shut strike if unless or and not sum day gov by thing agreed < > ( ) 5 123456 foo , =").split(" ");
+    private static final String TERM = " not ( sum day gov by thing agreed ";
+    /** What stands already, and with what a rule goes on there. */
+    private static final String[][] GOING_ON = {
+        {"", " table ahead need silent shut strike "}, {"shut ", " 5 "}, {"shut 0 ", " 5 "}, {"shut 0 1 ", " if unless "}, {"strike ", " 5 "},
+        {"strike 0 ", " if unless "}, {"shut 0 1 if ", TERM}, {"shut 0 1 unless ", TERM}, {"shut 0 1 if not ", TERM}, {"shut 0 1 if ( ", TERM},
+        {"shut 0 1 if by 0 or ", TERM}, {"shut 0 1 if by 0 and ", TERM}, {"shut 0 1 if by 0 unless ", TERM}, {"shut 0 1 if sum ", " < > "},
+        {"shut 0 1 if day ", " < > "}, {"shut 0 1 if gov ", " < > "}, {"shut 0 1 if sum < ", " 5 "}, {"shut 0 1 if sum > ", " 5 "},
+        {"shut 0 1 if by ", " 5 "}, {"shut 0 1 if thing ", " 5 "}, {"shut 0 1 if agreed ", " 5 "}, {"shut 0 1 if by 0 ", " or and unless "},
+        {"shut 0 1 if sum < 5 ", " or and unless "}, {"shut 0 1 unless by 0 ", " or and "}, {"shut 0 1 if (by 0 ", " or and ) "},
+        {"shut 0 1 if (by 0) ", " or and unless "}, {"shut 0 1 unless (by 0) ", " or and "}, {"shut 0 1 if by 0 unless by 1 ", " or and "},
+    };
+
+    @Sentence("Terms 3: the first word or sign with which no RULE goes on")
+    static void withWhatARuleGoesOnInEachPlace() {
+        for (String[] one : GOING_ON) {
+            for (String word : ALL) {
+                int answer = rule(withRules(1), one[0] + word);
+                boolean goesOn = one[1].contains(" " + word + " ");
+                due(goesOn ? 0 : 1, answer == -100 - one[0].length() ? 1 : 0);
+                // Where it goes on, either the end comes too soon or the rule is read.
+                boolean toTheEnd = answer == -100 - one[0].length() - word.length() || answer == NO || answer == 1;
+                due(goesOn ? 1 : 0, toTheEnd ? 1 : 0);
+            }
+        }
+    }
+
     @Sentence("Terms 3: the end (the place behind the last byte), if it comes too soon.")
     static void theEndComesTooSoon() {
         faulty("^", " ^", "            ^", "shut^", "shut ^", "shut 0^", "shut 0    ^", "shut 0 1 if   ^", "shut 0 1 if (by 0  ^");
@@ -261,6 +300,12 @@ final class BoundsOfRules extends Situations {
         wrongly("need 0 3", "need 0 99999", "shut 0 1 if by 3", "shut 0 1 if agreed 3", "shut 0 1 unless by 3", "shut 0 1 unless agreed 3");
         wrongly("shut 0 1 if by 0 or by 1 or by 2 or by 3", "shut 0 1 if sum < 1 unless not (sum < 1 or agreed 8)", "shut 0 1 if by 99999");
         due(NO, rule(withTables(1), "need 0 1"));
+        // What an earlier text named does not matter to a later one.
+        CabinetTable x = house();
+        due(NO, rule(x, "shut 0 1 if by 0 and by 1 and by 3"));
+        due(0, rule(x, "shut 0 1 if by 0 and by 1"));
+        due(1, rule(x, "shut 0 1 if by 0"));
+        due(2, rule(x, "shut 0 1"));
         due(0, rule(withOffices(8), "need 0 7"));
         due(NO, rule(withOffices(8), "need 0 8"));
     }
@@ -413,6 +458,22 @@ final class BoundsOfRules extends Situations {
         due(0, countsIf(x, "if by 0 unless by 0"));
         due(0, countsIf(x, "if by 1 unless by 1"));
         due(0, countsIf(x, "if by 1 unless by 0"));
+    }
+
+    @Sentence("Terms 3: OR: AND { or AND }; AND: NOT { and NOT }; NOT: not NOT")
+    static void orAndAndNotOfTwo() {
+        // By 0 is so, by 1 is not.
+        int[][] twos = {{0, 0}, {0, 1}, {1, 0}, {1, 1}};
+        CabinetTable x = withPapers(1);
+        for (int[] two : twos) {
+            due(two[0] == 0 || two[1] == 0 ? 1 : 0, countsIf(x, "if by " + two[0] + " or by " + two[1]));
+            due(two[0] == 0 && two[1] == 0 ? 1 : 0, countsIf(x, "if by " + two[0] + " and by " + two[1]));
+            due(two[0], countsIf(x, "if not by " + two[0]));
+        }
+        due(1, countsIf(x, "if by 0 and thing 0 and sum > 1"));
+        due(0, countsIf(x, "if by 0 and thing 0 and sum < 1"));
+        due(0, countsIf(x, "if by 1 or thing 1 or sum < 1"));
+        due(1, countsIf(x, "if by 1 or thing 1 or sum > 1"));
     }
 
     @Sentence("Terms 3: E, the loosest first: OR")
